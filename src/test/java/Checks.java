@@ -54,6 +54,15 @@ final class Checks {
         due("the digest behind " + what, x.digest(), before);
     }
 
+    /** All digits have the level 0 but for those that are told here. */
+    static TurnDigits withLevels(int... levels) {
+        TurnDigits x = new TurnDigits();
+        for (int d = 0; d < 6; d++) {
+            x.level(d, d < levels.length ? levels[d] : 0);
+        }
+        return x;
+    }
+
     static void type(TurnDigits x, String text) {
         for (int k = 0; k < text.length(); k++) {
             x.append(text.charAt(k));

@@ -221,7 +221,7 @@ public final class DigitsTest {
 
     /** With the levels 3 and 1 on the digits 1 and 2 the slots go 1, 1, 2, 1 and so on. */
     private static void runShares() {
-        TurnDigits x = twoLevels();
+        TurnDigits x = Checks.withLevels(0, 3, 1);
         int[] owners = {1, 1, 2, 1, 1, 1, 2, 1};
         int[] credits = {-1, -2, 1, 0, -1, -2, 1, 0};
         for (int k = 0; k < owners.length; k++) {
@@ -234,7 +234,7 @@ public final class DigitsTest {
         CHECKS.due("slots of 1", x.digit(1, 11), 6);
         CHECKS.due("slots of 2", x.digit(2, 11), 2);
         CHECKS.due("slots of 0", x.digit(0, 11), 0);
-        TurnDigits y = twoLevels();
+        TurnDigits y = Checks.withLevels(0, 3, 1);
         y.run(8);
         CHECKS.due("8 slots at once: slots of 1", y.digit(1, 11), 6);
         CHECKS.due("saved by run, as one call", y.count(10), 6);
@@ -242,20 +242,13 @@ public final class DigitsTest {
         CHECKS.due("8 slots undone at once", y.count(0), 0);
     }
 
-    private static TurnDigits twoLevels() {
-        TurnDigits x = new TurnDigits();
-        int[] levels = {0, 3, 1, 0, 0, 0};
-        for (int d = 0; d < 6; d++) {
-            x.level(d, levels[d]);
-        }
-        return x;
-    }
-
     private static void runDark() {
-        TurnDigits x = twoLevels();
+        TurnDigits x = Checks.withLevels(0, 3, 1);
         x.show(1, 1);
         x.set(1, 1);
-        x.run(8);
+        CHECKS.due("run(8) with dark slots", x.run(8), 0);
+        CHECKS.due("run(1) more", x.run(1), 0);
+        x.undo();
         CHECKS.due("lit slots of 1, dark at 0, 3 and 7", x.digit(1, 11), 3);
         CHECKS.due("lit slots of 2, always behind a change", x.digit(2, 11), 0);
         CHECKS.due("wear counts lit slots alone", x.wear(1, 1), 3);
@@ -285,6 +278,10 @@ public final class DigitsTest {
         CHECKS.due("burnt ahead of the end of life", x.digit(0, 2), 0);
         CHECKS.due("run(1) to the end of life", x.run(1), 2);
         CHECKS.due("burnt behind it", x.digit(0, 2), 6);
+        x.undo();
+        CHECKS.due("run(6) over the end of life", x.run(6), 2);
+        x.undo();
+        x.run(1);
         CHECKS.due("run(5) of burnt ones", x.run(5), 0);
         CHECKS.due("wear of a burnt one stays", x.wear(0, 1), 100);
         CHECKS.due("wear of one that is not shown", x.wear(0, 0), 0);

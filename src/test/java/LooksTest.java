@@ -21,15 +21,6 @@ public final class LooksTest {
         CHECKS.end();
     }
 
-    /** All digits have the level 0 but for those that are told here. */
-    private static TurnDigits withLevels(int... levels) {
-        TurnDigits x = new TurnDigits();
-        for (int d = 0; d < 6; d++) {
-            x.level(d, d < levels.length ? levels[d] : 0);
-        }
-        return x;
-    }
-
     private static void readable() {
         TurnDigits x = new TurnDigits();
         for (int sign = 0; sign < 12; sign++) {
@@ -55,7 +46,7 @@ public final class LooksTest {
     }
 
     private static void light() {
-        TurnDigits x = withLevels(0, 3, 1);
+        TurnDigits x = Checks.withLevels(0, 3, 1);
         CHECKS.due("light of 18 slots of 24", x.digit(1, 5), 750);
         CHECKS.due("light of 6 slots of 24", x.digit(2, 5), 250);
         CHECKS.due("light of none", x.digit(0, 5), 0);
@@ -68,13 +59,13 @@ public final class LooksTest {
     }
 
     private static void gap() {
-        TurnDigits x = withLevels(0, 3, 1);
+        TurnDigits x = Checks.withLevels(0, 3, 1);
         CHECKS.due("gap of one slot", x.digit(1, 6), 1);
         CHECKS.due("gap of three slots", x.digit(2, 6), 3);
         CHECKS.due("gap of all slots", x.digit(0, 6), 24);
         x.run(3);
         CHECKS.due("gap of three slots, from 2's last but one on", x.digit(2, 6), 3);
-        TurnDigits alone = withLevels(0, 0, 0, 1);
+        TurnDigits alone = Checks.withLevels(0, 0, 0, 1);
         CHECKS.due("gap of none", alone.digit(3, 6), 0);
         alone.set(1, 1);
         CHECKS.due("gap of the dark slot 0", alone.digit(3, 6), 1);
@@ -82,7 +73,7 @@ public final class LooksTest {
 
     /** Neither what went by nor what comes behind the frame makes a gap longer. */
     private static void gapOfTheFrameAlone() {
-        TurnDigits x = withLevels(4, 4, 4, 4, 4, 4);
+        TurnDigits x = Checks.withLevels(4, 4, 4, 4, 4, 4);
         x.set(0, 6);
         CHECKS.due("gap ahead of the last slot", x.digit(5, 6), 5);
         CHECKS.due("gap behind the first slot", x.digit(0, 6), 5);
@@ -93,7 +84,7 @@ public final class LooksTest {
     }
 
     private static void flickers() {
-        TurnDigits x = withLevels(0, 3, 1);
+        TurnDigits x = Checks.withLevels(0, 3, 1);
         x.set(2, 3);
         CHECKS.due("a gap of 3 at 3", x.digit(2, 7), 0);
         x.set(2, 2);
@@ -104,10 +95,21 @@ public final class LooksTest {
         CHECKS.due("one that flickers is not seen", x.digit(2, 8), 0);
         CHECKS.due("one that does not is", x.digit(1, 8), 1);
         CHECKS.due("digits that are seen", x.count(5), 1);
+        TurnDigits once = Checks.withLevels(1, 15);
+        once.set(0, 16);
+        once.set(2, 7);
+        CHECKS.due("a digit that is lit once", once.digit(0, 5), 1000 / 16);
+        CHECKS.due("a gap of 8 at 7", once.digit(0, 7), 1);
+        CHECKS.due("the first digit is counted", once.count(4), 1);
+        once.set(2, 8);
+        CHECKS.due("a gap of 8 at 8", once.digit(0, 7), 0);
+        CHECKS.due("no digit flickers", once.count(4), 0);
+        TurnDigits last = Checks.withLevels(0, 15, 0, 0, 0, 1);
+        CHECKS.due("the last digit is counted", last.count(4), 1);
     }
 
     private static void seen() {
-        TurnDigits x = withLevels(0, 3, 1);
+        TurnDigits x = Checks.withLevels(0, 3, 1);
         x.set(3, 1);
         x.ambient(0);
         CHECKS.due("seen without ambient light", x.digit(2, 8), 1);
@@ -126,7 +128,7 @@ public final class LooksTest {
         CHECKS.due("a light of 250 at 150", x.digit(2, 5), 250);
         x.set(3, 20);
         CHECKS.due("a light of 250 at 200", x.digit(2, 8), 1);
-        TurnDigits edge = withLevels(4, 4, 4, 4, 4);
+        TurnDigits edge = Checks.withLevels(4, 4, 4, 4, 4);
         CHECKS.due("a light of 5 slots of 24", edge.digit(0, 5), 208);
         edge.set(0, 20);
         edge.set(3, 20);
@@ -137,7 +139,7 @@ public final class LooksTest {
     }
 
     private static void clear() {
-        TurnDigits x = withLevels(4, 4);
+        TurnDigits x = Checks.withLevels(4, 4);
         CHECKS.due("nothing is clear as well", x.digit(0, 9), 1);
         CHECKS.due("one that is not seen is not clear", x.digit(2, 9), 0);
         CHECKS.due("though it can be read as one sign", x.digit(2, 10), 1 << 11);
@@ -153,7 +155,7 @@ public final class LooksTest {
     }
 
     private static void frameGoesOn() {
-        TurnDigits x = withLevels(0, 3, 1);
+        TurnDigits x = Checks.withLevels(0, 3, 1);
         int[] owners = {1, 1, 2, 1};
         x.set(1, 1);
         for (int gone = 0; gone < 9; gone++) {
@@ -169,7 +171,7 @@ public final class LooksTest {
     }
 
     private static void wear() {
-        TurnDigits x = withLevels(0, 0, 4, 0, 0, 2);
+        TurnDigits x = Checks.withLevels(0, 0, 4, 0, 0, 2);
         x.show(5, 7);
         x.show(2, 1);
         x.run(9);
@@ -186,7 +188,7 @@ public final class LooksTest {
     }
 
     private static void slot() {
-        TurnDigits x = withLevels(0, 0, 0, 0, 0, 0);
+        TurnDigits x = Checks.withLevels(0, 0, 0, 0, 0, 0);
         CHECKS.due("nobody's slot", x.slot(0, false), NONE);
         CHECKS.due("nobody's slot, lit", x.slot(23, true), NONE);
         x.level(5, 1);
@@ -198,14 +200,14 @@ public final class LooksTest {
         CHECKS.due("slot(5)", x.slot(5, false), 5);
         CHECKS.refusedArgument(x, "slot(6)", () -> x.slot(6, false));
         CHECKS.refusedArgument(x, "slot(-1)", () -> x.slot(-1, false));
-        TurnDigits tie = withLevels(0, 7, 7, 0, 7, 0);
+        TurnDigits tie = Checks.withLevels(0, 7, 7, 0, 7, 0);
         CHECKS.due("of several the lowest one", tie.slot(0, false), 1);
         CHECKS.due("then the next one", tie.slot(1, false), 2);
         CHECKS.due("then the last one", tie.slot(2, false), 4);
     }
 
     private static void counts() {
-        TurnDigits x = withLevels(0, 3, 1);
+        TurnDigits x = Checks.withLevels(0, 3, 1);
         x.set(0, 8);
         CHECKS.due("the sum of levels", x.count(1), 4);
         CHECKS.due("no dark slots", x.count(2), 0);
@@ -220,9 +222,17 @@ public final class LooksTest {
         x.burn(0, 1, true);
         x.burn(5, 6, true);
         CHECKS.due("burnt segments", x.count(7), 2);
-        TurnDigits nobody = withLevels(0, 0);
+        TurnDigits nobody = Checks.withLevels(0, 0);
         CHECKS.due("nobody's slots are dark", nobody.count(2), 24);
         CHECKS.due("nobody's slots have no changes", nobody.count(3), 0);
+        nobody.set(0, 96);
+        CHECKS.due("96 dark slots", nobody.count(2), 96);
+        nobody.set(0, 6);
+        CHECKS.due("6 dark slots of a shorter frame", nobody.count(2), 6);
+        TurnDigits all = new TurnDigits();
+        CHECKS.due("changes in a long frame", all.count(3), 23);
+        all.set(0, 6);
+        CHECKS.due("changes in a shorter frame", all.count(3), 5);
     }
 
     private static void setting() {
@@ -249,7 +259,7 @@ public final class LooksTest {
     }
 
     private static void nothingChanges() {
-        TurnDigits x = withLevels(5, 3, 1, 9);
+        TurnDigits x = Checks.withLevels(5, 3, 1, 9);
         x.set(1, 1);
         x.number(0, 5, -417);
         x.run(29);

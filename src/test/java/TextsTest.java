@@ -40,8 +40,10 @@ public final class TextsTest {
         CHECKS.due("clearBuffer saves nothing", x.count(10), 0);
         CHECKS.due("firstError() behind it", x.firstError(), 0);
         Checks.type(x, "5");
+        CHECKS.due("firstError() without what was cleared", x.firstError(), 1);
         CHECKS.due("read() behind it", x.read(), 1);
         CHECKS.due("its digit", x.digit(0, 0), 5);
+        CHECKS.due("no other digit", x.digit(1, 0), 11);
     }
 
     private static void errorAt(String text, int index) {
@@ -49,6 +51,7 @@ public final class TextsTest {
         Checks.type(x, text);
         long before = x.digest();
         CHECKS.due("firstError() of " + text, x.firstError(), index);
+        CHECKS.due("firstError() again", x.firstError(), index);
         CHECKS.due("the digest behind it", x.digest(), before);
     }
 
@@ -102,6 +105,7 @@ public final class TextsTest {
             x.show(d, 8);
         }
         Checks.type(x, text);
+        CHECKS.due("firstError() ahead of read()", x.firstError(), text.length());
         CHECKS.due("read() of " + text, x.read(), parts);
         for (int d = 0; d < 6; d++) {
             CHECKS.due(text + ", sign " + d, x.digit(d, 0), d < parts ? signs[d] : 8);

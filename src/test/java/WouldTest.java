@@ -16,16 +16,8 @@ public final class WouldTest {
         CHECKS.end();
     }
 
-    private static TurnDigits withLevels(int... levels) {
-        TurnDigits x = new TurnDigits();
-        for (int d = 0; d < 6; d++) {
-            x.level(d, d < levels.length ? levels[d] : 0);
-        }
-        return x;
-    }
-
     private static void ifLevel() {
-        TurnDigits x = withLevels(0, 3);
+        TurnDigits x = Checks.withLevels(0, 3);
         CHECKS.due("the light of 2 with 1 beside 3", x.ifLevel(2, 1, 0), 250);
         CHECKS.due("seen then", x.ifLevel(2, 1, 1), 2);
         CHECKS.due("flickering then", x.ifLevel(2, 1, 2), 0);
@@ -46,7 +38,7 @@ public final class WouldTest {
 
     /** A level is changed in truth, and undone: what would be is what is then. */
     private static void ifLevelIsAsLevel() {
-        TurnDigits x = withLevels(2, 7, 0, 1, 15, 3);
+        TurnDigits x = Checks.withLevels(2, 7, 0, 1, 15, 3);
         x.set(2, 7);
         x.set(1, 1);
         x.run(13);
@@ -65,7 +57,7 @@ public final class WouldTest {
     }
 
     private static void leastLevel() {
-        TurnDigits x = withLevels(0, 3);
+        TurnDigits x = Checks.withLevels(0, 3);
         x.ambient(20);
         CHECKS.due("the least for a light of 200", x.leastLevel(2), 1);
         x.set(2, 2);
@@ -77,6 +69,8 @@ public final class WouldTest {
         CHECKS.due("the only one's", x.leastLevel(1), 1);
         x.level(1, 15);
         CHECKS.due("the least beside 15, as 13 makes a gap of 2", x.leastLevel(2), 14);
+        x.set(0, 96);
+        CHECKS.due("the least beside 15 in a long frame", x.leastLevel(2), 15);
         x.level(0, 15);
         CHECKS.due("none beside 15 and 15", x.leastLevel(2), NONE);
         CHECKS.due("the level stays", x.digit(2, 1), 0);
@@ -165,16 +159,18 @@ public final class WouldTest {
 
     private static void evenness() {
         CHECKS.dueShare("all even", new TurnDigits().evenness(), 1.0);
-        CHECKS.dueShare("3 and 1", withLevels(0, 3, 1).evenness(), 250.0 / 750.0);
-        CHECKS.dueShare("one alone", withLevels(0, 0, 0, 0, 0, 2).evenness(), 1.0);
-        CHECKS.dueShare("no levels", withLevels(0, 0).evenness(), 1.0);
-        TurnDigits starved = withLevels(15, 15, 1);
+        CHECKS.dueShare("3 and 1", Checks.withLevels(0, 3, 1).evenness(), 250.0 / 750.0);
+        CHECKS.dueShare("the first digit's share is the least", Checks.withLevels(1, 3).evenness(), 250.0 / 750.0);
+        CHECKS.dueShare("the first digit's share is the greatest", Checks.withLevels(3, 0, 1).evenness(), 250.0 / 750.0);
+        CHECKS.dueShare("one alone", Checks.withLevels(0, 0, 0, 0, 0, 2).evenness(), 1.0);
+        CHECKS.dueShare("no levels", Checks.withLevels(0, 0).evenness(), 1.0);
+        TurnDigits starved = Checks.withLevels(15, 15, 1);
         starved.set(0, 6);
         CHECKS.dueShare("one that has a level but no light", starved.evenness(), 0.0);
-        TurnDigits dark = withLevels(4, 4);
+        TurnDigits dark = Checks.withLevels(4, 4);
         dark.set(1, 1);
         CHECKS.dueShare("all dark", dark.evenness(), 1.0);
-        TurnDigits floored = withLevels(0, 3, 1);
+        TurnDigits floored = Checks.withLevels(0, 3, 1);
         floored.set(0, 7);
         CHECKS.dueShare("lights rounded down", floored.evenness(), 285.0 / 714.0);
     }
@@ -230,12 +226,12 @@ public final class WouldTest {
         CHECKS.due("digest() of a worn state", x.digest(), digestOf(x, ""));
         CHECKS.due("digest() again", x.digest(), digestOf(x, ""));
         for (int frame = 6; frame <= 96; frame++) {
-            TurnDigits y = withLevels(frame % 16, 1 + frame % 3, 15, 0, frame / 7);
+            TurnDigits y = Checks.withLevels(frame % 16, 1 + frame % 3, 15, 0, frame / 7);
             y.set(0, frame);
             y.run(frame);
             CHECKS.due("digest() of a frame of " + frame, y.digest(), digestOf(y, ""));
         }
-        TurnDigits dark = withLevels(1);
+        TurnDigits dark = Checks.withLevels(1);
         dark.set(1, 1);
         CHECKS.due("digest() of dark slots", dark.digest(), digestOf(dark, ""));
     }
