@@ -161,7 +161,8 @@ public final class WouldTest {
         CHECKS.dueShare("all even", new TurnDigits().evenness(), 1.0);
         CHECKS.dueShare("3 and 1", Checks.withLevels(0, 3, 1).evenness(), 250.0 / 750.0);
         CHECKS.dueShare("the first digit's share is the least", Checks.withLevels(1, 3).evenness(), 250.0 / 750.0);
-        CHECKS.dueShare("the first digit's share is the greatest", Checks.withLevels(3, 0, 1).evenness(), 250.0 / 750.0);
+        CHECKS.dueShare("the first digit's share is the greatest",
+                Checks.withLevels(3, 0, 1).evenness(), 250.0 / 750.0);
         CHECKS.dueShare("one alone", Checks.withLevels(0, 0, 0, 0, 0, 2).evenness(), 1.0);
         CHECKS.dueShare("no levels", Checks.withLevels(0, 0).evenness(), 1.0);
         TurnDigits starved = Checks.withLevels(15, 15, 1);
