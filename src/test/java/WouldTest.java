@@ -38,11 +38,11 @@ public final class WouldTest {
 
     /** A level is changed in truth, and undone: what would be is what is then. */
     private static void ifLevelIsAsLevel() {
-        TurnDigits x = Checks.withLevels(2, 7, 0, 1, 15, 3);
-        x.set(2, 7);
-        x.set(1, 1);
-        x.run(13);
         for (int d = 0; d < 6; d++) {
+            TurnDigits x = Checks.withLevels(2, 7, 0, 1, 15, 3);
+            x.set(2, 7);
+            x.set(1, 1);
+            x.run(13);
             for (int level = 0; level <= 15; level++) {
                 int light = x.ifLevel(d, level, 0);
                 int seen = x.ifLevel(d, level, 1);
@@ -216,16 +216,16 @@ public final class WouldTest {
         CHECKS.due("digest() of a new object", x.digest(), digestOf(x, ""));
         Checks.type(x, "7*12-!~");
         CHECKS.due("digest() with a buffer", x.digest(), digestOf(x, "7*12-!~"));
-        x.clearBuffer();
-        x.number(1, 5, -904);
-        x.set(1, 1);
-        x.set(4, 1);
-        x.level(3, 15);
-        x.run(500);
-        x.burn(2, 3, true);
-        x.ambient(0);
-        CHECKS.due("digest() of a worn state", x.digest(), digestOf(x, ""));
-        CHECKS.due("digest() again", x.digest(), digestOf(x, ""));
+        TurnDigits worn = new TurnDigits();
+        worn.number(1, 5, -904);
+        worn.set(1, 1);
+        worn.set(4, 1);
+        worn.level(3, 15);
+        worn.run(500);
+        worn.burn(2, 3, true);
+        worn.ambient(0);
+        CHECKS.due("digest() of a worn state", worn.digest(), digestOf(worn, ""));
+        CHECKS.due("digest() again", worn.digest(), digestOf(worn, ""));
         for (int frame = 6; frame <= 96; frame++) {
             TurnDigits y = Checks.withLevels(frame % 16, 1 + frame % 3, 15, 0, frame / 7);
             y.set(0, frame);
