@@ -7,7 +7,6 @@ import java.util.List;
  */
 public final class BoundsDigitsTest {
     private static final int NONE = TurnDigits.NONE;
-    private static final int[] MASKS = {63, 6, 91, 79, 102, 109, 125, 7, 127, 111, 64, 0};
     private static final Checks CHECKS = new Checks("BoundsDigitsTest");
 
     public static void main(String[] args) {
@@ -69,29 +68,19 @@ public final class BoundsDigitsTest {
             TurnDigits x = new TurnDigits();
             for (int sign = 0; sign < 12; sign++) {
                 x.show(d, sign);
-                CHECKS.due("the mask of " + sign, x.digit(d, 3), MASKS[sign]);
+                CHECKS.due("the mask of " + sign, x.digit(d, 3), Checks.MASKS[sign]);
             }
         }
-    }
-
-    private static TurnDigits burnt(int digit, int mask) {
-        TurnDigits x = new TurnDigits();
-        for (int k = 0; k < 7; k++) {
-            if ((mask >> k & 1) == 1) {
-                x.burn(digit, k, true);
-            }
-        }
-        return x;
     }
 
     private static void burntSegments() {
         CHECKS.sentence("Digits, signs: a digit shows those segments of its sign that are not burnt");
         for (int mask : new int[] {0, 1, 64, 63, 126, 127}) {
-            TurnDigits x = burnt(5, mask);
+            TurnDigits x = Checks.burnt(5, mask);
             CHECKS.due("burnt segments", x.digit(5, 2), mask);
             for (int sign = 0; sign < 12; sign++) {
                 x.show(5, sign);
-                CHECKS.due("sign " + sign + " without " + mask, x.digit(5, 3), MASKS[sign] & ~mask);
+                CHECKS.due("sign " + sign + " without " + mask, x.digit(5, 3), Checks.MASKS[sign] & ~mask);
             }
             CHECKS.due("another digit's burnt ones", x.digit(4, 2), 0);
         }
@@ -100,11 +89,11 @@ public final class BoundsDigitsTest {
     private static void readAsOwnSign() {
         CHECKS.sentence("Digits, signs: so it can always be read as its own sign");
         for (int mask = 0; mask < 128; mask++) {
-            TurnDigits x = burnt(mask % 6, mask);
+            TurnDigits x = Checks.burnt(mask % 6, mask);
             for (int sign = 0; sign < 12; sign++) {
                 int readable = 0;
                 for (int other = 0; other < 12; other++) {
-                    readable |= (MASKS[other] & ~mask) == (MASKS[sign] & ~mask) ? 1 << other : 0;
+                    readable |= (Checks.MASKS[other] & ~mask) == (Checks.MASKS[sign] & ~mask) ? 1 << other : 0;
                 }
                 x.show(mask % 6, sign);
                 int answer = x.digit(mask % 6, 10);

@@ -359,12 +359,12 @@ public final class BoundsLooksTest {
             CHECKS.due("the slot 0 of " + length, alone.count(2), 1);
             alone.run(1);
             CHECKS.due("none behind it of " + length, alone.count(2), 0);
-            CHECKS.due("nobody's of " + length, frame(Checks.withLevels(), length).count(2), length);
+            CHECKS.due("nobody's", frame(Checks.withLevels(), length).count(2), length);
         }
     }
 
     private static void countChanges() {
-        CHECKS.sentence("Promise 17: 3: slots that another digit, or nobody, has than the one ahead of it in the frame");
+        CHECKS.sentence("Promise 17: 3: slots that another digit, or nobody, has than the one ahead of it");
         for (int length : new int[] {6, 96}) {
             CHECKS.due("all but the first of " + length, frame(new TurnDigits(), length).count(3), length - 1);
             CHECKS.due("none of " + length, frame(Checks.withLevels(0, 1), length).count(3), 0);

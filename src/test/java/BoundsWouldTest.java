@@ -141,31 +141,20 @@ public final class BoundsWouldTest {
         CHECKS.due("the digest behind it", x.digest(), before);
     }
 
-    private static TurnDigits burnt(int digit, int mask) {
-        TurnDigits x = new TurnDigits();
-        for (int k = 0; k < 7; k++) {
-            if ((mask >> k & 1) == 1) {
-                x.burn(digit, k, true);
-            }
-        }
-        return x;
-    }
-
     private static void alikeSigns() {
-        int[] masks = {63, 6, 91, 79, 102, 109, 125, 7, 127, 111, 64, 0};
         CHECKS.sentence("Promise 21: how many pairs of unlike signs, 0 to 11, would show the same segments on it");
         for (int mask = 0; mask < 128; mask++) {
             int pairs = 0;
             for (int a = 0; a < 12; a++) {
                 for (int b = 0; b < 12; b++) {
-                    pairs += a != b && ((masks[a] ^ masks[b]) & ~mask) == 0 ? 1 : 0;
+                    pairs += a != b && ((Checks.MASKS[a] ^ Checks.MASKS[b]) & ~mask) == 0 ? 1 : 0;
                 }
             }
-            CHECKS.due("without " + mask, burnt(mask % 6, mask).alikeSigns(mask % 6), pairs / 2);
+            CHECKS.due("without " + mask, Checks.burnt(mask % 6, mask).alikeSigns(mask % 6), pairs / 2);
         }
-        CHECKS.due("none burnt", burnt(0, 0).alikeSigns(0), 0);
-        CHECKS.due("all burnt: 12 times 11 by 2", burnt(5, 127).alikeSigns(5), 66);
-        CHECKS.due("another digit's are burnt", burnt(4, 127).alikeSigns(5), 0);
+        CHECKS.due("none burnt", Checks.burnt(0, 0).alikeSigns(0), 0);
+        CHECKS.due("all burnt: 12 times 11 by 2", Checks.burnt(5, 127).alikeSigns(5), 66);
+        CHECKS.due("another digit's are burnt", Checks.burnt(4, 127).alikeSigns(5), 0);
     }
 
     private static TurnDigits shown(int... signs) {

@@ -5,6 +5,9 @@ import java.util.function.Supplier;
 
 /** What every test uses: it tells each answer that is not the one that is due. */
 final class Checks {
+    /** The segments of the signs, as the document lists them. */
+    static final int[] MASKS = {63, 6, 91, 79, 102, 109, 125, 7, 127, 111, 64, 0};
+
     private final String name;
     private String sentence = "";
     private final Set<String> sentences = new HashSet<>();
@@ -107,6 +110,17 @@ final class Checks {
         TurnDigits x = new TurnDigits();
         for (int d = 0; d < 6; d++) {
             x.level(d, d < levels.length ? levels[d] : 0);
+        }
+        return x;
+    }
+
+    /** A new object with the burnt segments of the mask on a digit. */
+    static TurnDigits burnt(int digit, int mask) {
+        TurnDigits x = new TurnDigits();
+        for (int k = 0; k < 7; k++) {
+            if ((mask >> k & 1) == 1) {
+                x.burn(digit, k, true);
+            }
         }
         return x;
     }

@@ -1,6 +1,5 @@
 /** Promises 1 to 8: a new object, and the calls that change the digits. */
 public final class DigitsTest {
-    private static final int[] MASKS = {63, 6, 91, 79, 102, 109, 125, 7, 127, 111, 64, 0};
     private static final Checks CHECKS = new Checks("DigitsTest");
 
     public static void main(String[] args) {
@@ -53,7 +52,7 @@ public final class DigitsTest {
         for (int sign = 0; sign < 12; sign++) {
             CHECKS.due("show(5, " + sign + ")", x.show(5, sign), previous);
             CHECKS.due("its sign", x.digit(5, 0), sign);
-            CHECKS.due("its segments", x.digit(5, 3), MASKS[sign]);
+            CHECKS.due("its segments", x.digit(5, 3), Checks.MASKS[sign]);
             CHECKS.due("another sign", x.digit(4, 0), 11);
             previous = sign;
         }

@@ -3,14 +3,19 @@ import java.util.function.Supplier;
 
 /** Many runs of calls, the same ones each time, on the program and on the model beside it. */
 public final class RandomRunsTest {
-    private static final int RUNS = 250;
-    private static final int CALLS = 120;
+    private static final int RUNS = 230;
+    private static final int CALLS = 130;
+    private static final int WHOLE_RUNS = 12;
+    private static final int MOST_CALLS = 512;
+    /** A text of seven characters, with firstError(), read() and clearBuffer(), and a digest(). */
+    private static final int LONGEST_STEP = 11;
     private static final Checks CHECKS = new Checks("RandomRunsTest");
 
     private final Random random;
     private final TurnDigits x = new TurnDigits();
     private final Model model = new Model();
     private final String name;
+    private int made = 0;
 
     private RandomRunsTest(int run) {
         random = new Random(run);
@@ -19,18 +24,26 @@ public final class RandomRunsTest {
 
     public static void main(String[] args) {
         for (int run = 0; run < RUNS; run++) {
-            new RandomRunsTest(run).calls();
+            new RandomRunsTest(run).calls(CALLS);
+        }
+        for (int run = RUNS; run < RUNS + WHOLE_RUNS; run++) {
+            new RandomRunsTest(run).calls(MOST_CALLS);
         }
         CHECKS.end();
     }
 
-    private void calls() {
-        for (int k = 0; k < CALLS; k++) {
-            call(name + k + " ");
+    /** An object may be used for no more calls than these; digest() is the last one. */
+    private void calls(int most) {
+        for (int k = 0; made < most - LONGEST_STEP; k++) {
+            call(name + made + " ");
             if (k % 8 == 7) {
-                CHECKS.due(name + k + " digest()", x.digest(), model.digest());
+                same(name + made + " digest()", x::digest, model::digest);
             }
         }
+        while (made < most - 1) {
+            look(name + made + " ", made % 2 == 0 ? 16 : 19);
+        }
+        same(name + made + " digest()", x::digest, model::digest);
     }
 
     /** A number of the range mostly, sometimes one just outside of it, seldom any. */
@@ -54,6 +67,7 @@ public final class RandomRunsTest {
     }
 
     private void same(String what, Supplier<Object> got, Supplier<Object> want) {
+        made++;
         CHECKS.dueText(what, answer(got), answer(want));
     }
 
