@@ -763,9 +763,6 @@ public final class TurnDigits {
         int parts = 0;
         private int place = AT_START;
 
-        Text() {
-        }
-
         /** Returns false, and puts nothing, if there is no room. */
         boolean put(int code) {
             if (length >= MOST_CHARACTERS) {

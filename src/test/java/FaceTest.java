@@ -5,7 +5,9 @@ import java.lang.reflect.Method;
 import java.lang.reflect.Modifier;
 import java.nio.file.Files;
 import java.nio.file.Path;
+import java.util.ArrayList;
 import java.util.Arrays;
+import java.util.List;
 import java.util.Set;
 import java.util.TreeSet;
 import java.util.regex.Matcher;
@@ -51,6 +53,9 @@ public final class FaceTest {
         String source = Files.readString(Path.of("src/main/java/TurnDigits.java"));
         source(source);
         names(source);
+        thrown(source);
+        sizes();
+        lengths(source);
         CHECKS.end();
     }
 
@@ -117,5 +122,46 @@ public final class FaceTest {
             }
         }
         CHECKS.due("hidden methods found", found > 20 ? 1 : 0, 1);
+    }
+
+    /** Rule 6: what is thrown, and that it tells a written text or none. */
+    private static void thrown(String source) {
+        Matcher throwing = Pattern.compile("\\bthrow\\b.*").matcher(source);
+        String fine = "throw new (IndexOutOfBounds|IllegalArgument|IllegalState)Exception\\((\"[^\"]*\")?\\);";
+        while (throwing.find()) {
+            CHECKS.due(throwing.group(), throwing.group().matches(fine) ? 1 : 0, 1);
+        }
+    }
+
+    /** Rules 5 and 11: how many classes, fields and parameters there are, and no static state. */
+    private static void sizes() {
+        List<Class<?>> classes = new ArrayList<>(Arrays.asList(TurnDigits.class.getDeclaredClasses()));
+        classes.add(TurnDigits.class);
+        CHECKS.due("too many classes", classes.size() > 12 ? 1 : 0, 0);
+        for (Class<?> c : classes) {
+            int fields = 0;
+            for (Field f : c.getDeclaredFields()) {
+                boolean isStatic = Modifier.isStatic(f.getModifiers());
+                fields += isStatic ? 0 : 1;
+                CHECKS.due("static state: " + f, isStatic && !Modifier.isFinal(f.getModifiers()) ? 1 : 0, 0);
+            }
+            CHECKS.due("too many fields of " + c.getSimpleName(), fields > 20 ? 1 : 0, 0);
+            for (Method m : c.getDeclaredMethods()) {
+                CHECKS.due("too many parameters of " + m, m.getParameterCount() > 7 ? 1 : 0, 0);
+            }
+        }
+    }
+
+    /** Rule 11: a method ends with the brace that stands just below its first word. */
+    private static void lengths(String source) {
+        String head = "^( {4}| {8})(?=\\w)(?!return|if|for|while|switch)[^;{}]*\\([^;{}]*\\{\\n";
+        Matcher methods = Pattern.compile("(?ms)" + head + "(.*?)^\\1\\}$").matcher(source);
+        int found = 0;
+        while (methods.find()) {
+            found++;
+            long lines = methods.group(2).lines().count();
+            CHECKS.due("lines of a method too many: " + methods.group(2), lines > 60 ? 1 : 0, 0);
+        }
+        CHECKS.due("methods with a length found", found > 50 ? 1 : 0, 1);
     }
 }
